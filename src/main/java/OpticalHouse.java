@@ -312,6 +312,7 @@ public final class OpticalHouse {
         if (outside(term, Terms.TERMS) || surface != NONE && !isSeen(surface) || !look()) {
             return BAD;
         }
+        terms.prepare();
         if (surface == NONE) {
             terms.operand(Terms.SUM, term, asked);
         } else {
@@ -577,6 +578,7 @@ public final class OpticalHouse {
     private static final class Fraction {
         static final long FAR = 1L << 62;
         static final long TOLD = 1L << 40;
+        static final long SMALL = 1L << 31;
         // Euclid needs fewer than 95 steps below 2^63
         static final int STEPS = 200;
 
@@ -605,7 +607,11 @@ public final class OpticalHouse {
 
         /** The product, or FAR where it is 2^62 or more without its sign. */
         static long times(long a, long b) {
-            if (a == 0 || b == 0) {
+            // most numbers are small, and a division is dear
+            if (a < SMALL && a > -SMALL && b < SMALL && b > -SMALL) {
+                return a * b;
+            }
+            if (b == 0) {
                 return 0;
             }
             long most = (FAR - 1) / (b < 0 ? -b : b);
@@ -689,11 +695,9 @@ public final class OpticalHouse {
 
         /** LOST is 0 / 0, which goes through the sums above as itself; a quotient by 0 comes with under 0, too. */
         private void keep(long over, long under) {
-            if (over == FAR || under == FAR || under == 0) {
-                lose();
-            } else {
-                put(over, under);
-            }
+            boolean lost = over == FAR || under == FAR || under == 0;
+            top = lost ? 0 : over;
+            bottom = lost ? 0 : under;
         }
 
         /** Below 0, 0 or above 0, by continued fractions: cross products would not fit in a long. Both are there. */
@@ -1162,10 +1166,11 @@ public final class OpticalHouse {
     /** A LENS near the axis: its MEDIA, what is WORKED, and four rays, all by the VIEW's STATE and WAVE. */
     private static final class Near {
         static final int MARGINAL = 0;
-        static final int CHIEF = 1;
         // the rays that start with height 1, angle 0, and with height 0, angle 1
-        static final int HIGH = 2;
-        static final int STEEP = 3;
+        static final int HIGH = 1;
+        static final int STEEP = 2;
+        // the last one, as it hangs on where the two others meet the STOP
+        static final int CHIEF = 3;
         static final int RAYS = 4;
 
         final Fraction[] glasses = Fraction.row(MOST_GLASSES * WAVES);
@@ -1333,18 +1338,24 @@ public final class OpticalHouse {
             out.sum(y, PLUS, one);
         }
 
-        /** All four rays by the VIEW's WAVE; the CHIEF hangs on where two others meet the STOP. */
+        /** All four rays by the VIEW's WAVE. */
         void carry() {
             startMarginal();
             heightOf(HIGH, 0).put(1, 1);
             angleOf(HIGH, 0).put(0, 1);
             heightOf(STEEP, 0).put(0, 1);
             angleOf(STEEP, 0).put(1, 1);
-            carryRay(MARGINAL);
-            carryRay(HIGH);
-            carryRay(STEEP);
-            startChief(heightOf(HIGH, lens.stop), heightOf(STEEP, lens.stop));
-            carryRay(CHIEF);
+            for (int ray = 0; ray < RAYS; ray++) {
+                if (ray == CHIEF) {
+                    startChief(heightOf(HIGH, lens.stop), heightOf(STEEP, lens.stop));
+                }
+                for (int s = 0; s < lens.surfaces; s++) {
+                    Fraction y = heightOf(ray, s);
+                    Fraction left = angleOf(ray, s + 1);
+                    bend(left, ahead(s, wave), angleOf(ray, s), y, curves[s], beyond(s, wave));
+                    glide(heightOf(ray, s + 1), y, gaps[s], left);
+                }
+            }
         }
 
         private void startChief(Fraction a, Fraction b) {
@@ -1365,15 +1376,6 @@ public final class OpticalHouse {
             one.product(object, u);
             y.sum(field, PLUS, one);
         }
-
-        private void carryRay(int ray) {
-            for (int s = 0; s < lens.surfaces; s++) {
-                Fraction y = heightOf(ray, s);
-                Fraction left = angleOf(ray, s + 1);
-                bend(left, ahead(s, wave), angleOf(ray, s), y, curves[s], beyond(s, wave));
-                glide(heightOf(ray, s + 1), y, gaps[s], left);
-            }
-        }
     }
 
     /** FIRST, TERMS and BEAMS of what a Near carries. */
@@ -1388,14 +1390,17 @@ public final class OpticalHouse {
 
         final Near near;
         final Fraction unit = new Fraction();
-        final Fraction p = new Fraction();
-        final Fraction q = new Fraction();
-        final Fraction r = new Fraction();
+        // P, Q, R of each SURFACE and H, as prepare() leaves them
+        final Fraction[] marginalLeans = Fraction.row(MOST_SURFACES);
+        final Fraction[] chiefLeans = Fraction.row(MOST_SURFACES);
+        final Fraction[] bends = Fraction.row(MOST_SURFACES);
+        final Fraction invariant = new Fraction();
         final Fraction one = new Fraction();
         final Fraction two = new Fraction();
         final Fraction three = new Fraction();
+        final Fraction four = new Fraction();
+        final Fraction five = new Fraction();
         final Fraction part = new Fraction();
-        final Fraction power = new Fraction();
 
         Terms(Near axis) {
             near = axis;
@@ -1443,7 +1448,7 @@ public final class OpticalHouse {
                     turnedQuotient(out, near.heightOf(Near.CHIEF, last), near.angleOf(Near.CHIEF, m));
                     break;
                 case 10:
-                    invariant(out);
+                    findInvariant(out);
                     break;
                 case 11:
                     one.put(2, 1);
@@ -1474,14 +1479,14 @@ public final class OpticalHouse {
             out.quotient(one, two);
         }
 
-        private void invariant(Fraction out) {
+        private void findInvariant(Fraction out) {
             one.product(near.heightOf(Near.CHIEF, 0), near.angleOf(Near.MARGINAL, 0));
             two.product(near.heightOf(Near.MARGINAL, 0), near.angleOf(Near.CHIEF, 0));
             one.sum(one, LESS, two);
             out.product(near.ahead(0, near.wave), one);
         }
 
-        /** An operand of a merit: a FIRST, THE SUM of a term, or what is WORKED of a SURFACE. */
+        /** An operand of a merit: a FIRST, THE SUM of a term (behind prepare()), or what is WORKED of a SURFACE. */
         void operand(int kind, int n, Fraction out) {
             int m = near.lens.surfaces;
             if (kind == SUM) {
@@ -1501,42 +1506,15 @@ public final class OpticalHouse {
             }
         }
 
-        void termOf(int s, int term, Fraction out) {
-            Fraction y = near.heightOf(Near.MARGINAL, s);
-            lean(p, s, Near.MARGINAL);
-            lean(q, s, Near.CHIEF);
-            r.quotient(near.angleOf(Near.MARGINAL, s + 1), near.beyond(s, near.wave));
-            one.quotient(near.angleOf(Near.MARGINAL, s), near.ahead(s, near.wave));
-            r.sum(r, LESS, one);
-            switch (term) {
-                case 0:
-                    turnedTerm(out, p, p, y);
-                    break;
-                case 1:
-                    turnedTerm(out, p, q, y);
-                    break;
-                case 2:
-                    turnedTerm(out, q, q, y);
-                    break;
-                case 3:
-                    fieldTerm(out, s);
-                    break;
-                case 4:
-                    fieldTerm(out, s);
-                    turnedTerm(one, q, q, y);
-                    out.sum(one, PLUS, out);
-                    one.quotient(q, p);
-                    out.product(one, out);
-                    break;
-                case 5:
-                    colourTerm(out, s, p, y);
-                    break;
-                default:
-                    colourTerm(out, s, q, y);
-                    break;
-            }
-            if (term < 5 && term != 3 && !near.conics[s].isZero()) {
-                conicTerm(out, s, term);
+        /** What the TERMS of all SURFACES share; to be called behind carry() and ahead of termOf(). */
+        void prepare() {
+            findInvariant(invariant);
+            for (int s = 0; s < near.lens.surfaces; s++) {
+                lean(marginalLeans[s], s, Near.MARGINAL);
+                lean(chiefLeans[s], s, Near.CHIEF);
+                one.quotient(near.angleOf(Near.MARGINAL, s + 1), near.beyond(s, near.wave));
+                two.quotient(near.angleOf(Near.MARGINAL, s), near.ahead(s, near.wave));
+                bends[s].sum(one, LESS, two);
             }
         }
 
@@ -1547,57 +1525,90 @@ public final class OpticalHouse {
             out.product(near.ahead(s, near.wave), out);
         }
 
+        void termOf(int s, int term, Fraction out) {
+            Fraction p = marginalLeans[s];
+            Fraction q = chiefLeans[s];
+            switch (term) {
+                case 0:
+                    bentTerm(out, s, p, p);
+                    break;
+                case 1:
+                    bentTerm(out, s, p, q);
+                    break;
+                case 2:
+                    bentTerm(out, s, q, q);
+                    break;
+                case 3:
+                    fieldTerm(out, s);
+                    break;
+                case 4:
+                    bentTerm(one, s, q, q);
+                    fieldTerm(out, s);
+                    out.sum(one, PLUS, out);
+                    one.quotient(q, p);
+                    out.product(one, out);
+                    break;
+                case 5:
+                    colourTerm(out, s, p);
+                    break;
+                default:
+                    colourTerm(out, s, q);
+                    break;
+            }
+            if (term < 5 && term != 3 && !near.conics[s].isZero()) {
+                addConic(out, s, term);
+            }
+        }
+
         /** -(((a b) y) R). */
-        private void turnedTerm(Fraction out, Fraction a, Fraction b, Fraction y) {
+        private void bentTerm(Fraction out, int s, Fraction a, Fraction b) {
             out.product(a, b);
-            out.product(out, y);
-            out.product(out, r);
+            out.product(out, near.heightOf(Near.MARGINAL, s));
+            out.product(out, bends[s]);
             out.turn();
         }
 
+        /** -(((H H) c) ((1 / N') - (1 / N))). */
         private void fieldTerm(Fraction out, int s) {
-            one.product(near.heightOf(Near.CHIEF, 0), near.angleOf(Near.MARGINAL, 0));
-            two.product(near.heightOf(Near.MARGINAL, 0), near.angleOf(Near.CHIEF, 0));
-            one.sum(one, LESS, two);
-            one.product(near.ahead(0, near.wave), one);
-            out.product(one, one);
+            out.product(invariant, invariant);
             out.product(out, near.curves[s]);
-            one.quotient(unit, near.beyond(s, near.wave));
-            two.quotient(unit, near.ahead(s, near.wave));
-            one.sum(one, LESS, two);
-            out.product(out, one);
+            two.quotient(unit, near.beyond(s, near.wave));
+            three.quotient(unit, near.ahead(s, near.wave));
+            two.sum(two, LESS, three);
+            out.product(out, two);
             out.turn();
         }
 
         /** (a y) V, V by how far WAVES 1 and 2 part on both sides. */
-        private void colourTerm(Fraction out, int s, Fraction a, Fraction y) {
+        private void colourTerm(Fraction out, int s, Fraction a) {
             one.sum(near.beyond(s, 1), LESS, near.beyond(s, 2));
             one.quotient(one, near.beyond(s, near.wave));
             two.sum(near.ahead(s, 1), LESS, near.ahead(s, 2));
             two.quotient(two, near.ahead(s, near.wave));
             one.sum(one, LESS, two);
-            out.product(a, y);
+            out.product(a, near.heightOf(Near.MARGINAL, s));
             out.product(out, one);
         }
 
-        private void conicTerm(Fraction out, int s, int term) {
+        /** The term and W w. */
+        private void addConic(Fraction out, int s, int term) {
             Fraction y = near.heightOf(Near.MARGINAL, s);
             Fraction chief = near.heightOf(Near.CHIEF, s);
             Fraction c = near.curves[s];
-            power.product(c, c);
-            power.product(c, power);
-            power.product(near.conics[s], power);
-            one.sum(near.beyond(s, near.wave), LESS, near.ahead(s, near.wave));
-            power.product(power, one);
+            one.product(c, c);
+            one.product(c, one);
+            one.product(near.conics[s], one);
+            two.sum(near.beyond(s, near.wave), LESS, near.ahead(s, near.wave));
+            one.product(one, two);
             two.product(term < 2 ? y : chief, term < 1 ? y : chief);
             two.product(term < 4 ? y : chief, two);
             two.product(y, two);
-            power.product(power, two);
-            out.sum(out, PLUS, power);
+            one.product(one, two);
+            out.sum(out, PLUS, one);
         }
 
         /** What a BEAM x, z becomes, part 0 or 1 of it, in place of x. */
-        void beamOf(Fraction x, Fraction z, int part) {
+        void beamOf(Fraction x, Fraction z, int which) {
             int m = near.lens.surfaces;
             int last = m - 1;
             if (last < 0) {
@@ -1606,29 +1617,33 @@ public final class OpticalHouse {
             }
             Fraction a = near.heightOf(Near.HIGH, last);
             Fraction c = near.angleOf(Near.HIGH, m);
-            one.product(a, x);
-            one.sum(one, PLUS, near.heightOf(Near.STEEP, last));
-            two.product(a, z);
-            p.product(c, x);
-            p.sum(p, PLUS, near.angleOf(Near.STEEP, m));
-            q.product(c, z);
-            r.product(p, p);
-            three.product(q, q);
-            r.sum(r, PLUS, three);
-            if (part == 0) {
-                one.product(one, p);
-                two.product(two, q);
-                x.sum(one, PLUS, two);
+            Fraction e = one;
+            Fraction f = two;
+            Fraction g = three;
+            Fraction h = four;
+            e.product(a, x);
+            e.sum(e, PLUS, near.heightOf(Near.STEEP, last));
+            f.product(a, z);
+            g.product(c, x);
+            g.sum(g, PLUS, near.angleOf(Near.STEEP, m));
+            h.product(c, z);
+            five.product(g, g);
+            part.product(h, h);
+            five.sum(five, PLUS, part);
+            if (which == 0) {
+                e.product(e, g);
+                f.product(f, h);
+                x.sum(e, PLUS, f);
             } else {
-                two.product(two, p);
-                one.product(one, q);
-                x.sum(two, LESS, one);
+                f.product(f, g);
+                e.product(e, h);
+                x.sum(f, LESS, e);
             }
-            x.quotient(x, r);
+            x.quotient(x, five);
         }
     }
 
-    /** FILMS, the SHARE that a SURFACE throws back, and GHOSTS. */
+    /** FILMS, the SHARE that a SURFACE sends back, and GHOSTS. */
     private static final class Ghosts {
         static final int MOST_LAYERS = 8;
         static final int MOST_QUARTERS = 8;
@@ -1691,7 +1706,7 @@ public final class OpticalHouse {
             out.put(x.top < 0 ? -x.top : x.top, x.bottom);
         }
 
-        /** The MARGINAL ray thrown back at j, then at i, and on to the last SURFACE: where it meets the axis. */
+        /** The MARGINAL ray sent back at j, then at i, and on to the last SURFACE: where it meets the axis. */
         void placeOf(int i, int j, Fraction out) {
             int by = near.wave;
             y.like(near.heightOf(Near.MARGINAL, j));
@@ -1722,17 +1737,17 @@ public final class OpticalHouse {
             for (int s = 0; s < j; s++) {
                 passOn(s, out);
             }
-            throwBack(j, out);
+            sendBack(j, out);
             for (int s = j - 1; s > i; s--) {
                 passOn(s, out);
             }
-            throwBack(i, out);
+            sendBack(i, out);
             for (int s = i + 1; s < near.lens.surfaces; s++) {
                 passOn(s, out);
             }
         }
 
-        private void throwBack(int s, Fraction power) {
+        private void sendBack(int s, Fraction power) {
             shareOf(s, part);
             power.product(power, part);
         }
@@ -2043,7 +2058,7 @@ public final class OpticalHouse {
          * brought to 1 .. 4 by powers of 4; a near root of 53 bits is then put right by its exact rest in longs.
          */
         private static double root(double told) {
-            if (told == 0.0 || told > Flight.most()) {
+            if (told == 0.0 || told > 1.7976931348623157E308) {
                 return told;
             }
             double a = told;
@@ -2065,15 +2080,11 @@ public final class OpticalHouse {
                 scale = scale / 2.0;
             }
             double near = 0.5 + 0.4 * a;
-            for (int i = 0; i < 6; i++) {
+            for (int i = 0; i < 5; i++) {
                 near = (near + a / near) / 2.0;
             }
             return (double) roundRoot((long) (a * 4503599627370496.0), (long) (near * 4503599627370496.0))
                     / 4503599627370496.0 * scale;
-        }
-
-        private static double most() {
-            return 1.7976931348623157E308;
         }
 
         /** The whole number nearest to the root of 2^52 times a number; both wrap alike, and their rest is small. */
@@ -2104,6 +2115,8 @@ public final class OpticalHouse {
         static final int WRONG = 3;
 
         int rows = 0;
+        // whether an operand of a ROW is THE SUM of a term
+        boolean sums = false;
         final int[] operands = new int[MOST_ROWS];
         final int[] places = new int[MOST_ROWS];
         final int[] signs = new int[MOST_ROWS];
@@ -2128,6 +2141,7 @@ public final class OpticalHouse {
             length = bytes;
             end = 0;
             rows = 0;
+            sums = false;
             step();
             for (int row = 0; row < MOST_ROWS; row++) {
                 if (!readRow(row)) {
@@ -2178,6 +2192,7 @@ public final class OpticalHouse {
                 return false;
             }
             places[row] = (int) value;
+            sums = sums || operand == Terms.SUM;
             step();
             return true;
         }
@@ -2353,6 +2368,9 @@ public final class OpticalHouse {
         void worth(Merit merit, Lens lens, Fraction out) {
             near.work(lens);
             near.carry();
+            if (merit.sums) {
+                terms.prepare();
+            }
             out.put(0, 1);
             for (int row = 0; row < merit.rows; row++) {
                 terms.operand(merit.operands[row], merit.places[row], v);
