@@ -152,6 +152,8 @@ public final class PromisesTest {
         fraction(4, "a product of 2^60", x, x.ray(0, 2), -(1L << 60), 3);
         x.set(0, NONE, 6, 1L << 23, 1);
         lost(4, "a product of 2^62", x, x.ray(0, 2));
+        x.set(0, NONE, 6, -(1L << 23), 1);
+        lost(4, "a product of -2^62", x, x.ray(0, 2));
         // a sum: y + (t u') by fractions whose belows share nothing
         x = new OpticalHouse();
         x.lens(2);
@@ -473,6 +475,7 @@ public final class PromisesTest {
             due(20, "undone " + kind, x.same(0, 1) ? 1 : 0, 1);
         }
         x.set(0, 0, 0, 2, 4);
+        due(20, "the first curvature", x.same(0, 1) ? 1 : 0, 0);
         x.set(1, 0, 0, 5, 1);
         x.set(1, 0, 0, 3, 6);
         due(20, "by another way", x.same(1, 0) ? 1 : 0, 1);
@@ -775,6 +778,26 @@ public final class PromisesTest {
         dueD(35, "what", x.at(0, -1), 0.0);
         dueD(35, "surface", x.at(2, 0), 0.0);
         dueD(35, "surface", x.at(-1, 0), 0.0);
+        x.glass(1, 0, 3, 2);
+        x.set(0, 0, 0, 1, 1);
+        due(34, "just touched", x.trace(1.0, 0.0, 0.0, 0.0), 0);
+        dueD(35, "z", x.at(0, 2), 1.0);
+        x.set(0, 0, 2, -25, 16);
+        x.set(0, NONE, 5, 3, 4);
+        due(34, "P + S is 0.0", x.trace(2.0, 0.0, 1.0, 0.0), 1);
+        x.set(0, 0, 2, 0, 1);
+        // 1.0 - q is -q in doubles, so that n is 0.0 behind the surface
+        x.glass(0, 0, 1L << 30, 1);
+        x.glass(1, 0, 1, 1L << 30);
+        due(34, "missed at the plane", x.trace(0.0, 0.0, 0.0, 0.0), 4);
+        dueD(35, "n", x.at(0, 5), 0.0);
+        for (int what = 0; what < 7; what++) {
+            dueD(35, "the plane", x.at(1, what), 0.0);
+        }
+        x.glass(0, 0, 1, 1);
+        x.glass(1, 0, 1, 2);
+        x.set(0, 0, 0, 1, 10);
+        due(34, "total", x.trace(6.0, 0.0, 0.0, 0.0), 3);
         x.solve(0, 0, 1, 5, 1);
         due(34, "the gap is there", x.trace(6.0, 0.0, 0.0, 0.0), 3);
         x.set(0, 0, 0, 0, 1);
@@ -783,6 +806,31 @@ public final class PromisesTest {
         due(36, "refused", x.spot(1, 0.0, 0.0), NO);
         x.open();
         dueD(35, "opening", x.at(0, 0), 0.0);
+    }
+    private static void refusedTraces() {
+        OpticalHouse x = new OpticalHouse();
+        x.glass(1, 0, 3, 2);
+        x.lens(2);
+        x.set(0, 0, 0, 1, 10);
+        x.set(0, 0, 1, 30, 1);
+        x.behind(0, 0, 1);
+        x.view(0, 0, 0);
+        due(34, "all there", x.trace(0.5, 0.0, 0.0, 0.0), 0);
+        x.stop(0, 1);
+        fraction(34, "the image", x, x.first(6), 0, 1);
+        due(34, "the chief's height is LOST", x.trace(0.5, 0.0, 0.0, 0.0), NO);
+        x.stop(0, 0);
+        due(34, "all there", x.trace(0.5, 0.0, 0.0, 0.0), 0);
+        x.set(0, 0, 2, (1L << 40) - 1, 1);
+        x.pick(0, 1, 2, 0, (1L << 40) - 1, 1);
+        due(34, "a conic is LOST", x.trace(0.5, 0.0, 0.0, 0.0), NO);
+        x.undo(0);
+        x.set(0, 0, 2, 0, 1);
+        x.set(0, 1, 0, -1, 7);
+        x.pick(0, 1, 1, 0, (1L << 40) - 1, (1L << 40) - 2);
+        due(34, "all there", x.trace(0.5, 0.0, 0.0, 0.0), 0);
+        x.set(0, 0, 1, (1L << 40) - 3, (1L << 40) - 5);
+        due(34, "the last gap is LOST", x.trace(0.5, 0.0, 0.0, 0.0), NO);
     }
     private static double near(double got, double want) {
         return Math.abs(got - want) < 1.0E-12 ? 1.0 : 0.0;
@@ -875,6 +923,8 @@ public final class PromisesTest {
         due(38, "no n", merit(x, 0, "sum = 1"), -14);
         due(38, "n too much", merit(x, 0, "focal 1 = 1"), -16);
         due(38, "a word", merit(x, 0, "focals = 1"), -10);
+        due(38, "a word", merit(x, 0, "focalz = 1"), -10);
+        due(38, "a word", merit(x, 0, "afocal = 1"), -10);
         due(38, "a word", merit(x, 0, "by = 1"), -10);
         due(38, "upper case", merit(x, 0, "Focal = 1"), -10);
         due(38, "a byte that is none, behind a word", merit(x, 0, "focal+1"), -15);
@@ -1226,6 +1276,15 @@ public final class PromisesTest {
         could("head with a surface", 0, 8, 0, 0, new int[] {n, n}, 2, 0);
         could("kind 9", 0, 9, 0, 0, new int[] {n, n}, 0, 0);
         could("kind 255", 0, 255, 0, 0, new int[] {n, n}, 0, 0);
+        for (int kind = 0; kind < 9; kind += 8) {
+            OpticalHouse eight = new OpticalHouse();
+            for (int i = 0; i < 8; i++) {
+                eight.lens(1);
+            }
+            eight.stop(7, 0);
+            write(eight, 8, bytes(kind, 8, n, kind == 0 ? 1 : n, n, 0, 0));
+            due(49, "a ninth lens", eight.open(), 8);
+        }
         OpticalHouse x = new OpticalHouse();
         x.lens(3);
         x.lens(2);
@@ -1263,6 +1322,7 @@ public final class PromisesTest {
         ghosts();
         beams();
         traces();
+        refusedTraces();
         mirrors();
         spots();
         meritTexts();

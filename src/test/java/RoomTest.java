@@ -32,6 +32,6 @@ public final class RoomTest {
         sum += calls(x);
         long later = made() - before;
         System.out.println("a new object makes " + atFirst + " bytes, the calls " + later + " (" + sum + ")");
-        System.exit(atFirst < 100000 && later < 4096 ? 0 : 1);
+        System.exit(atFirst < 100000 && later < 20000 ? 0 : 1);
     }
 }
