@@ -168,6 +168,33 @@ public final class PromisesTest {
         lost(4, "below 2^63", x, x.ray(1, 0));
     }
 
+    /** Sums and products at the very edge: y c in a bend of one, y + (t u') with u' = y. */
+    private static void farFractions() {
+        OpticalHouse x = new OpticalHouse();
+        x.glass(1, 0, 2, 1);
+        x.lens(2);
+        x.view(0, 0, 0);
+        x.behind(0, 0, 1);
+        x.set(0, 0, 0, (1L << 31) - 1, 1);
+        long edge = (1L << 62) - 1;
+        x.set(0, NONE, 6, (1L << 31) + 1, 1);
+        fraction(4, "2^62 - 1", x, x.ray(0, 2), -edge, 2);
+        x.set(0, NONE, 6, -(1L << 31) - 1, 1);
+        fraction(4, "1 - 2^62", x, x.ray(0, 2), edge, 2);
+        x.set(0, 0, 0, 0, 1);
+        x.behind(0, 0, 0);
+        x.set(0, NONE, 4, 1, 1);
+        for (int sign = -1; sign < 2; sign += 2) {
+            x.set(0, NONE, 6, sign * (1L << 31), 1);
+            x.set(0, 0, 1, (1L << 30) - 1, (1L << 30) + 1);
+            lost(4, "a sum of 2^62", x, x.ray(1, 0));
+            x.set(0, 0, 1, (1L << 30) - 2, (1L << 30) + 1);
+            fraction(4, "a sum of 2^62 - 2^31", x, x.ray(1, 0), sign * ((1L << 62) - (1L << 31)), (1L << 30) + 1);
+            x.set(0, 0, 1, -1, (1L << 31) + 1);
+            lost(4, "a part of 2^62 and more", x, x.ray(1, 0));
+        }
+    }
+
     private static void glasses() {
         OpticalHouse x = single();
         due(6, "glass", x.glass(7, 2, 3, 2), 1);
@@ -444,6 +471,45 @@ public final class PromisesTest {
         due(19, "refused", x.count(1), 399);
         due(19, "one move still", x.merge(0, 1), 1);
         due(19, "none more", x.merge(0, 1), FULL);
+    }
+
+    /** All that can be told of a LENS of ten, by numbers that two tellers make unlike. */
+    private static void tellAll(OpticalHouse x, int lens, int by, boolean numbers, boolean zooms) {
+        for (int s = 9; s >= 0; s--) {
+            if (numbers) {
+                x.behind(lens, s, by);
+                x.coat(lens, s, by);
+                x.set(lens, s, 0, by, 1);
+                x.solve(lens, s, 1, by, 1);
+                x.set(lens, s, 2, by, 1);
+                x.set(lens, s, 3, by, 1);
+            }
+            for (int state = 1; state < 4 && zooms; state++) {
+                x.zoom(lens, s, state, by, 1);
+            }
+        }
+        for (int sort = 4; sort < 7 && numbers; sort++) {
+            x.set(lens, NONE, sort, by + 1, 1);
+        }
+        if (numbers) {
+            x.stop(lens, by);
+        }
+    }
+    private static void mergingAll() {
+        OpticalHouse x = new OpticalHouse();
+        x.lens(10);
+        x.branch(0);
+        tellAll(x, 0, 1, true, true);
+        tellAll(x, 1, 2, true, true);
+        due(19, "each of 94 things", x.merge(0, 1), -10 - 94);
+        x = new OpticalHouse();
+        x.lens(10);
+        x.branch(0);
+        tellAll(x, 0, 1, true, false);
+        tellAll(x, 1, 2, false, true);
+        due(19, "things apart", x.merge(0, 1), 30);
+        due(19, "things apart", x.merge(1, 0), 94);
+        due(20, "same", x.same(0, 1) ? 1 : 0, 1);
     }
 
     private static void sameness() {
@@ -1306,12 +1372,14 @@ public final class PromisesTest {
         newObject();
         tape();
         fractions();
+        farFractions();
         glasses();
         lenses();
         moves();
         undoing();
         merging();
         mergingFull();
+        mergingAll();
         sameness();
         viewing();
         firsts();
