@@ -189,6 +189,61 @@ public final class AxisEdgesTest {
             fraction("the greatest", x, x.ray(0, 1), 2, Edges.TOLD - 1);
             x.set(0, NONE, 6, 0, 1);
             fraction("a beam of 0", x, x.ray(0, 1), 0, 1);
+            x.set(0, NONE, 6, 2, 1);
+            fraction("the greatest object again", x, x.ray(0, 1), 2, Edges.TOLD - 1);
+            x.set(0, NONE, 4, 0, 1);
+            fraction("far away again", x, x.ray(0, 1), 0, 1);
+        });
+        edge("3", "a LENS of ten: each ray at each SURFACE", () -> {
+            // flat, gaps of 1, GLASS 1 of 2 behind the last: A 1, B 9 at the STOP
+            House x = new House();
+            x.glass(1, 0, 2, 1);
+            x.lens(10);
+            for (int s = 0; s < 10; s++) {
+                x.set(0, s, 1, 1, 1);
+            }
+            x.behind(0, 9, 1);
+            x.stop(0, 9);
+            x.set(0, NONE, 4, 1, 1);
+            x.set(0, NONE, 5, 10, 1);
+            x.set(0, NONE, 6, 3, 1);
+            x.view(0, 0, 0);
+            for (int s = 0; s < 10; s++) {
+                fraction("y at " + s, x, x.ray(s, 0), 3 + 3 * s, 1);
+                fraction("u at " + s, x, x.ray(s, 1), 3, 1);
+                fraction("u' at " + s, x, x.ray(s, 2), 3, s == 9 ? 2 : 1);
+                // u = -(10 / (1 + 9)), y = 10 - 1
+                fraction("chief y at " + s, x, x.ray(s, 3), 9 - s, 1);
+                fraction("chief u at " + s, x, x.ray(s, 4), -1, 1);
+                fraction("chief u' at " + s, x, x.ray(s, 5), -1, s == 9 ? 2 : 1);
+            }
+            fraction("A", x, x.first(0), 1, 1);
+            fraction("B", x, x.first(1), 9, 1);
+            fraction("C", x, x.first(2), 0, 1);
+            fraction("D", x, x.first(3), 1, 2);
+            fraction("image", x, x.first(6), -20, 1);
+            fraction("mag", x, x.first(7), 1, 1);
+            fraction("8", x, x.first(8), 9, 1);
+            fraction("9", x, x.first(9), 0, 1);
+            fraction("10", x, x.first(10), 30, 1);
+        });
+        edge("3", "behind the last SURFACE, at it: its GAP does not count", () -> {
+            House x = one();
+            x.set(0, NONE, 5, 1, 3);
+            long[][] before = new long[13][];
+            for (int what = 0; what < 13; what++) {
+                before[what] = new long[] {x.first(what), x.above(), x.below()};
+            }
+            due("beam", x.beam(3, 1, 5, 1, 0), 1);
+            long above = x.above();
+            x.set(0, 0, 1, 7, 1);
+            for (int what = 0; what < 13; what++) {
+                due("first " + what, x.first(what), before[what][0]);
+                due("above", x.above(), before[what][1]);
+                due("below", x.below(), before[what][2]);
+            }
+            due("beam", x.beam(3, 1, 5, 1, 0), 1);
+            due("above", x.above(), above);
         });
         edge("3", "CHIEF, OBJECT 0: its height is LOST where A is 0 at the STOP", () -> {
             House x = one();
@@ -226,6 +281,9 @@ public final class AxisEdgesTest {
             x.set(1, NONE, 4, 3, 1);
             fraction("u", x, x.ray(0, 4), -1, 1);
             fraction("y", x, x.ray(0, 3), -2, 1);
+            fraction("FIRST 8", x, x.first(8), -2, 1);
+            // ((-2) (1/3)) - (1 (-1))
+            fraction("FIRST 10", x, x.first(10), 1, 3);
             x.set(1, NONE, 4, 2, 1);
             lost("u", x, x.ray(0, 4));
             lost("y", x, x.ray(0, 3));
@@ -297,6 +355,30 @@ public final class AxisEdgesTest {
             }
             bad("surface -2", h -> h.term(-2, 0));
         });
+        edge("3", "TERMS 0 to 6, by hand, each with all that it hangs on", () -> {
+            House x = new House();
+            int[] ahead = {2, 3, 1};
+            int[] behind = {4, 7, 2};
+            for (int wave = 0; wave < 3; wave++) {
+                x.glass(0, wave, ahead[wave], 1);
+                x.glass(1, wave, behind[wave], 1);
+            }
+            x.lens(1);
+            x.behind(0, 0, 1);
+            x.set(0, 0, 0, 1, 1);
+            x.set(0, NONE, 4, 2, 1);
+            x.set(0, NONE, 5, 1, 2);
+            x.view(0, 0, 0);
+            // u 1/2, u' -1/4, u~ -1/4, y~ 0: P 3, Q -1/2, R -5/16, H 1/2, V 5/4 - 2/2
+            long[][] want = {{45, 16}, {-15, 32}, {5, 64}, {1, 16}, {-3, 128}, {3, 4}, {-1, 8}};
+            for (int term = 0; term < 7; term++) {
+                fraction("term " + term, x, x.term(0, term), want[term][0], want[term][1]);
+                fraction("sum " + term, x, x.term(NONE, term), want[term][0], want[term][1]);
+            }
+            x.set(0, 0, 2, 1, 1);
+            // W is 2, w is 1
+            fraction("term 0 with a conic", x, x.term(0, 0), 77, 16);
+        });
         edge("3", "TERM 4: LOST where P is 0", () -> {
             House x = one();
             x.set(0, NONE, 5, 1, 2);
@@ -335,6 +417,31 @@ public final class AxisEdgesTest {
             lost("-2^62", x, x.term(0, 0));
             x.set(0, 0, 2, -3, 1);
             fraction("-3 2^60", x, x.term(0, 0), -(11L << 58), 1);
+        });
+        edge("3", "CONIC not 0: W w besides, of terms 0, 1, 2, 4 alone", () -> {
+            // the STOP is a flat SURFACE ahead, so that y~ is 3 where y is 2: P 2, Q 4, R -1/2, H -2; W is k
+            // 3: -((4 1) ((1/2) - 1)) = 2; 4: (4 / 2) (16 + 2)
+            long[] without = {4, 8, 16, 2, 36, 0, 0};
+            long[] w = {16, 24, 36, 0, 54, 0, 0};
+            House x = new House();
+            for (int wave = 0; wave < 3; wave++) {
+                x.glass(1, wave, 2, 1);
+            }
+            x.lens(2);
+            x.set(0, 0, 1, 3, 1);
+            x.set(0, 1, 0, 1, 1);
+            x.behind(0, 1, 1);
+            x.set(0, NONE, 5, 1, 1);
+            x.set(0, NONE, 6, 2, 1);
+            x.view(0, 0, 0);
+            fraction("y", x, x.ray(1, 0), 2, 1);
+            fraction("y~", x, x.ray(1, 3), 3, 1);
+            for (int k = -1; k <= 1; k++) {
+                x.set(0, 1, 2, k, 1);
+                for (int term = 0; term < 7; term++) {
+                    fraction("term " + term + " with " + k, x, x.term(1, term), without[term] + k * w[term], 1);
+                }
+            }
         });
         edge("3", "THE SUM: 0 and those of SURFACES 0, 1, .. in order, each step a SUM", () -> {
             // term 3 is -c, c, -c here
@@ -445,6 +552,33 @@ public final class AxisEdgesTest {
             House x = flat(3);
             fraction("power", x, x.ghost(0, 2, 1), 0, 1);
         });
+        edge("3", "POWER: SURFACES between are passed three times, none where i is just ahead of j", () -> {
+            House x = new House();
+            x.glass(1, 0, 3, 1);
+            x.lens(4);
+            x.behind(0, 0, 1);
+            x.behind(0, 2, 1);
+            x.view(0, 0, 0);
+            // 1/4 each: 3/4 at 0, 1 on the way, 1/4 at 2, 3/4 at 1 back, 1/4 at 0, 3/4 at 1, 2, 3
+            fraction("one between", x, x.ghost(0, 2, 1), 729, 65536);
+            // 3/4 at 0, 1/4 at 1, at 0, 3/4 at 1, 2, 3
+            fraction("none between", x, x.ghost(0, 1, 1), 81, 4096);
+            fraction("two between", x, x.ghost(0, 3, 1), 6561, 1048576);
+        });
+        edge("3", "PLACE: SURFACES between, and where i is just ahead of j", () -> {
+            House x = new House();
+            x.glass(1, 0, 2, 1);
+            x.lens(3);
+            x.behind(0, 1, 1);
+            x.set(0, NONE, 4, 1, 1);
+            x.set(0, 0, 1, 1, 1);
+            x.set(0, 1, 1, 2, 1);
+            x.view(0, 0, 0);
+            // on: y 1, 2, 3 with u' 1, 1/2; sent back at 2: -1/2, y 4 at 1, u' -1 there, y 5 at 0; on 1, y 6, 1/2, y 7, 1
+            fraction("one between", x, x.ghost(0, 2, 0), -7, 1);
+            // sent back at 2: -1/2, y 4 at 1; sent on 1/2, y 5, 1
+            fraction("none between", x, x.ghost(1, 2, 0), -5, 1);
+        });
         edge("3", "1 of a MIRROR: SHARE, and POWER elsewhere", () -> {
             House x = new House();
             x.glass(1, 0, 3, 1);
@@ -524,6 +658,16 @@ public final class AxisEdgesTest {
             fraction("x below 0", x, x.beam(1 - Edges.TOLD, 1, 1, 1, 0), 1 - Edges.TOLD, 1);
             bad("z 0", h -> h.beam(1, 1, 0, 1, 0));
             bad("z below 0", h -> h.beam(1, 1, -1, 1, 1));
+        });
+        edge("p32", "both parts, by hand", () -> {
+            House x = one();
+            // A 1, B 0, C -1/2, D 1/2: e 3, f 5, g -1, h -5/2, w 29/4
+            fraction("part 0", x, x.beam(3, 1, 5, 1, 0), -62, 29);
+            fraction("part 1", x, x.beam(3, 1, 5, 1, 1), 10, 29);
+            House y = flat(2);
+            y.set(0, 0, 1, 3, 1);
+            fraction("through a gap of 3, part 0", y, y.beam(2, 1, 5, 1, 0), 5, 1);
+            fraction("through a gap of 3, part 1", y, y.beam(2, 1, 5, 1, 1), 5, 1);
         });
         edge("p32", "LOST where a step is", () -> {
             House x = one();

@@ -159,6 +159,12 @@ public final class FractionEdgesTest {
             isLost("-2^62", sumOf(-FAR / 2, 1, -FAR / 2, 1), SUM);
             isLost("2 - 2^63", sumOf(1 - FAR, 1, 1 - FAR, 1), SUM);
         });
+        edge("1", "SUM: LOST, if x + y is 2^62, though lowest terms would do", () -> {
+            is("2^62 - 2 by 2", sumOf(FAR / 2 - 1, 2, FAR / 2 - 1, 2), SUM, FAR / 2 - 1, 1);
+            isLost("2^62 by 2", sumOf(FAR / 2 + 1, 2, FAR / 2 - 1, 2), SUM);
+            is("2 - 2^62 by 2", sumOf(1 - FAR / 2, 2, 1 - FAR / 2, 2), SUM, 1 - FAR / 2, 1);
+            isLost("-2^62 by 2", sumOf(-FAR / 2 - 1, 2, 1 - FAR / 2, 2), SUM);
+        });
         edge("1", "SUM: LOST, if m = b (d / g) is 2^62 or more", () -> {
             is("2^62 - 1", sumOf(1, UNDER, 1, OVER), SUM, 1L << 32, FAR - 1);
             isLost("2^62 + 2^32 - 3", sumOf(1, UNDER, 1, OVER + 2), SUM);
@@ -202,6 +208,25 @@ public final class FractionEdgesTest {
             x.set(0, 0, 0, -2, 3);
             is("C is 1/3", x, h -> h.first(2), 1, 3);
             is("-1 / C", x, h -> h.first(4), -3, 1);
+        });
+        edge("1", "- in front alone turns the sign, and nothing else", () -> {
+            House x = new House();
+            x.glass(0, 0, 3, 2);
+            x.lens(2);
+            x.behind(0, 0, 8);
+            x.set(0, NONE, 4, 1, 1);
+            x.set(0, 0, 1, 5, 7);
+            x.view(0, 0, 0);
+            // N is 3/2, N' -3/2: u' = -1, y = 1 - 5/7
+            is("u' behind a MIRROR", x, h -> h.ray(0, 2), -1, 1);
+            is("y at the next one", x, h -> h.ray(1, 0), 2, 7);
+            House y = new House();
+            y.lens(2);
+            y.set(0, NONE, 4, 1, 1);
+            y.set(0, 0, 1, 5, 7);
+            y.view(0, 0, 0);
+            // 12/7 at SURFACE 1, back to 17/7 at SURFACE 0, 22/7 at SURFACE 1 again
+            is("a GHOST's way back", y, h -> h.ghost(0, 1, 0), -22, 7);
         });
         edge("1", "QUOTIENT: by 0: LOST", () -> {
             House x = new House();

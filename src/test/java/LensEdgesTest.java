@@ -484,11 +484,33 @@ public final class LensEdgesTest {
             x.glass(1, 0, 1, 1);
             Edges.lost("both are 1", x, x.worked(0, 0));
         });
-        edge("2", "CURVATURE solved by WAVE 0, whichever is seen", () -> {
+        edge("2", "solved by WAVE 0, whichever is seen", () -> {
             House x = solvable();
             x.glass(1, 1, 5, 1);
             x.view(0, 0, 1);
             fraction("worked", x, x.worked(0, 0), 2, 1);
+        });
+        edge("2", "solved with the ray that has come through the SURFACES ahead, by WAVE 0", () -> {
+            House x = new House();
+            x.glass(1, 0, 2, 1);
+            x.glass(1, 1, 5, 1);
+            x.glass(1, 2, 7, 1);
+            x.lens(3);
+            x.set(0, NONE, 4, 4, 1);
+            x.set(0, 0, 0, 1, 1);
+            x.behind(0, 0, 1);
+            x.set(0, 0, 1, 1, 1);
+            x.solve(0, 1, 0, 1, 1);
+            x.solve(0, 1, 1, 3, 1);
+            for (int wave = 0; wave < 3; wave++) {
+                x.view(0, 0, wave);
+                // u 1/4, u' (1/4 - 1) / 2 = -3/8, y 5/8: ((2 (-3/8)) - 1) / ((5/8) (1 - 2)) = 14/5; then (3 - 5/8) / 1
+                fraction("curvature by wave " + wave, x, x.worked(1, 0), 14, 5);
+                fraction("gap by wave " + wave, x, x.worked(1, 1), 19, 8);
+            }
+            x.view(0, 0, 0);
+            fraction("so the angle is", x, x.ray(1, 2), 1, 1);
+            fraction("and the height", x, x.ray(2, 0), 3, 1);
         });
         edge("2", "GAP solved: LOST where u' is 0", () -> {
             House x = new House();
@@ -884,6 +906,37 @@ public final class LensEdgesTest {
             x.undo(0);
             Edges.due("undone", x.same(0, 1), false);
         }));
+        edge("p20", "alike at each SURFACE of ten, and in each sort", () -> {
+            for (int at = 0; at < 10; at++) {
+                House x = new House();
+                x.lens(10);
+                x.lens(10);
+                for (int kind = 0; kind < 9; kind++) {
+                    if (kind < 4) {
+                        x.set(0, at, kind, 1, 2);
+                    } else if (kind < 7) {
+                        x.zoom(0, at, kind - 3, 0, 1);
+                    } else if (kind == 7) {
+                        x.behind(0, at, 1);
+                    } else {
+                        x.coat(0, at, 0);
+                    }
+                    Edges.due("surface " + at + ", " + kind, x.same(0, 1), false);
+                    x.undo(0);
+                    Edges.due("surface " + at + ", " + kind + " undone", x.same(0, 1), true);
+                }
+            }
+        });
+        edge("p20", "alike in what a PICK UP is from", () -> {
+            House x = new House();
+            x.lens(3);
+            x.lens(3);
+            x.pick(0, 2, 0, 0, 1, 1);
+            x.pick(1, 2, 0, 1, 1, 1);
+            Edges.due("from two", x.same(0, 1), false);
+            x.pick(1, 2, 0, 0, 1, 1);
+            Edges.due("from one", x.same(0, 1), true);
+        });
         edge("p20", "told as it was at first is alike, but what is told for a STATE", () -> {
             House x = new House();
             x.lens(1);

@@ -92,6 +92,8 @@ public final class MeritEdgesTest {
                 wrongAt(word + "0=1", word.length());
                 wrongAt(word + "s=1", 0);
                 wrongAt(word.substring(1) + "=1", 0);
+                wrongAt("x" + word.substring(1) + "=1", 0);
+                wrongAt(word.substring(0, word.length() - 1) + "x=1", 0);
                 wrongAt(word.substring(0, word.length() - 1) + "=1", 0);
                 wrongAt(word.toUpperCase() + "=1", 0);
             }
@@ -103,6 +105,8 @@ public final class MeritEdgesTest {
                 wrongAt(word + " x=1", word.length() + 1);
                 wrongAt(word + "s 0=1", 0);
                 wrongAt(word.substring(1) + " 0=1", 0);
+                wrongAt("x" + word.substring(1) + " 0=1", 0);
+                wrongAt(word.substring(0, word.length() - 1) + "x 0=1", 0);
             }
             wrongAt("by = 1", 0);
             wrongAt("1 = 1", 0);
@@ -429,24 +433,69 @@ public final class MeritEdgesTest {
             x.merit(0, "gap 0=0 by -3;gap 0=0;gap 0=0;gap 0=0;gap 0=0");
             fraction("less first", x, x.value(0), 1L << 60, 1);
         });
-        edge("6", "THE SUM of each term, curve and gap as WORKED", () -> {
-            House x = Houses.RICH.house();
-            x.cut(0);
-            for (int n = 0; n < 7; n++) {
-                x.merit(3, "sum " + n + " = 0");
-                int there = x.term(NONE, n);
+        edge("6", "each OPERAND is its own", () -> {
+            House x = thick(1);
+            // FIRST 4, 5, 6, 7, 11; curves and a gap
+            String[] words = {"focal", "back", "image", "mag", "number", "curve 0", "curve 1", "gap 0", "gap 1"};
+            int[] firsts = {4, 5, 6, 7, 11};
+            for (int i = 0; i < words.length; i++) {
+                x.merit(0, words[i] + " = 0");
+                int there = i < 5 ? x.first(firsts[i]) : x.worked(i == 6 || i == 8 ? 1 : 0, i < 7 ? 0 : 1);
+                due("it is there", there, 1);
                 long above = x.above();
                 long below = x.below();
-                int valued = x.value(3);
-                Edges.due("sum " + n, valued <= there, true);
-                if (valued == 1 && Math.abs(above) < 1L << 31 && below < 1L << 31) {
-                    due("its square", x.above(), above * above);
+                fraction(words[i], x, x.value(0), above * above, below * below);
+                for (int other = 0; other < i && i < 5; other++) {
+                    x.first(firsts[other]);
+                    Edges.due("not as another one", x.above() == above && x.below() == below, false);
                 }
             }
-            x.merit(3, "gap 2 = 0");
-            // picked up twice from a gap of 5 in state 1
-            fraction("gap 2", x, x.value(3), 100, 1);
         });
+        edge("6", "sum n is THE SUM of term n, whatever was asked for before", () -> {
+            for (int n = 0; n < 7; n++) {
+                House x = thick(1);
+                x.merit(0, "sum " + n + " = 0");
+                int valued = x.value(0);
+                long above = x.above();
+                long below = x.below();
+                due("it is there", valued, 1);
+                due("term " + n, x.term(NONE, n), 1);
+                due("its square, above", above, x.above() * x.above());
+                due("its square, below", below, x.below() * x.below());
+                x.set(0, 0, 0, 1, 3);
+                due("there", x.value(0), 1);
+                above = x.above();
+                due("term " + n, x.term(NONE, n), 1);
+                due("the square behind a change", above, x.above() * x.above());
+            }
+        });
+        edge("6", "curve and gap as WORKED, for the VIEW's STATE", () -> {
+            House x = Houses.RICH.house();
+            x.cut(0);
+            x.merit(3, "gap 2 = 0");
+            // picked up twice from a gap of 5 in state 1, of 3 in state 0
+            fraction("state 1", x, x.value(3), 100, 1);
+            x.view(0, 0, 1);
+            fraction("state 0", x, x.value(3), 36, 1);
+        });
+    }
+    /** Curvatures 1 / below and -1/2 round a glass of 2, 1 thick, an OBJECT 4 away, the STOP behind. */
+    private static House thick(int below) {
+        House x = new House();
+        x.glass(1, 0, 2, 1);
+        x.glass(1, 1, 3, 1);
+        x.glass(1, 2, 3, 2);
+        x.lens(2);
+        x.set(0, 0, 0, 1, below);
+        x.set(0, 1, 0, -1, 2);
+        x.set(0, 0, 1, 1, 1);
+        x.set(0, 1, 1, 5, 1);
+        x.behind(0, 0, 1);
+        x.stop(0, 1);
+        x.set(0, NONE, 4, 4, 1);
+        x.set(0, NONE, 5, 1, 1);
+        x.view(0, 0, 0);
+        return x;
     }
 
     // ---- ROUNDS
@@ -748,6 +797,25 @@ public final class MeritEdgesTest {
             fraction("the datum stays", x, x.datum(0, 0, 1), 0, 1);
             House full = Houses.FULL.house();
             due("with 400 moves, too", full.worse(0, 0, 0), 1);
+        });
+        edge("6", "a datum is told by that more, or less: the VALUE is that of a LENS so told", () -> {
+            String[] words = {"focal", "back", "image", "mag", "number", "curve 0", "gap 0", "sum 0", "sum 1", "sum 2", "sum 3"};
+            for (String word : words) {
+                House x = thick(3);
+                x.merit(0, word + " = 1");
+                x.tolerance(0, 0, 2, 3);
+                House told = thick(1);
+                told.merit(0, word + " = 1");
+                due(word + " is there", told.value(0), 1);
+                fraction(word + " told by 2/3 more", x, x.worse(0, 0, 0), told.above(), told.below());
+                House back = thick(1);
+                back.merit(0, word + " = 1");
+                back.tolerance(0, 0, 2, 3);
+                House less = thick(3);
+                less.merit(0, word + " = 1");
+                due(word + " is there", less.value(0), 1);
+                fraction(word + " told by 2/3 less", back, back.worse(0, 1, 0), less.above(), less.below());
+            }
         });
         edge("6", "a datum that is PICKED UP or SOLVED stays", () -> {
             House x = two("gap 1 = 0");

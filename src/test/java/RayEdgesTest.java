@@ -97,6 +97,67 @@ public final class RayEdgesTest {
         return out;
     }
 
+    private static void starts() {
+        edge("5", "OBJECT 0: where a ray starts, by all four", () -> {
+            House x = startHouse();
+            Flown f = startFlown();
+            // A is 1 - 2/30, B is 2 (2/3) at the STOP: -((4/15) / (14/15))
+            Edges.fraction("y0~", x, x.ray(0, 3), -2, 7);
+            f.d = -2.0 / 7.0;
+            f.e = 1.0 / 5.0;
+            x.first(6);
+            f.v = (double) x.above() / (double) x.below();
+            startsAlike(x, f);
+        });
+        edge("5", "OBJECT not 0: where a ray starts, by all four", () -> {
+            House x = startHouse();
+            x.set(0, NONE, 4, 30, 1);
+            Flown f = startFlown();
+            f.o = 30.0;
+            f.field = 1.0 / 5.0;
+            x.ray(0, 3);
+            f.d = (double) x.above() / (double) x.below();
+            x.first(6);
+            f.v = (double) x.above() / (double) x.below();
+            startsAlike(x, f);
+        });
+    }
+    /** Radius 10 ahead of a glass of 3/2, 3 thick, a flat SURFACE behind with the STOP. */
+    private static House startHouse() {
+        House x = new House();
+        x.glass(1, 0, 3, 2);
+        x.lens(2);
+        x.set(0, 0, 0, 1, 10);
+        x.set(0, 0, 1, 2, 1);
+        x.behind(0, 0, 1);
+        x.stop(0, 1);
+        x.set(0, NONE, 5, 1, 5);
+        x.set(0, NONE, 6, 3, 2);
+        x.view(0, 0, 0);
+        return x;
+    }
+    private static Flown startFlown() {
+        Flown f = new Flown(2);
+        f.index = new double[] {1.0, 1.5, 1.0};
+        f.c[0] = 1.0 / 10.0;
+        f.t[0] = 2.0;
+        f.b = 1.5;
+        return f;
+    }
+    private static void startsAlike(House x, Flown f) {
+        double[][] told = {{0.5, 0.0, 0.0, 0.0}, {0.0, 0.5, 0.0, 0.0}, {0.0, 0.0, 0.5, 0.0}, {0.0, 0.0, 0.0, 0.5},
+            {0.25, -0.5, 0.75, -0.125}, {-1.0, 1.0, -1.0, 1.0}};
+        for (double[] t : told) {
+            f.fly(t[0], t[1], t[2], t[3]);
+            due("passes", x.trace(t[0], t[1], t[2], t[3]), f.answer);
+            for (int s = 0; s < 3; s++) {
+                for (int what = 0; what < 7; what++) {
+                    due("at " + s + " " + what, x.at(s, what), f.marks[s][what]);
+                }
+            }
+        }
+    }
+
     // ---- NO
 
     /** Told a trace and a spot that pass, then what makes the next ones be refused. */
@@ -371,6 +432,8 @@ public final class RayEdgesTest {
                 int got = x.trace(1.0, 0.0, 0.0, 0.0);
                 due("q is 1 and " + more + " parts", got == 3 ? 1 : 0, more > 0 ? 1 : 0);
                 due("x is told", x.at(0, 0), 1.0);
+                // J is not below 0: G is not turned about, and goes along the normal, which is -1
+                Edges.due("l", x.at(0, 3) < 0.0, more < 0);
             }
         });
         edge("5", "TOTAL unless K >= 0: the last slope that goes on", () -> {
@@ -397,6 +460,32 @@ public final class RayEdgesTest {
                 x.view(0, 0, 0);
                 int got = x.trace(0.0, 0.0, f, 0.0);
                 due("slope " + f, got == 3 ? 1 : 0, Math.abs(f) == out ? 1 : 0);
+            }
+        });
+        edge("5", "S is turned about if n < 0, G if J < 0", () -> {
+            // back from a flat MIRROR on to radius 10, whose middle lies on the other side
+            House x = new House();
+            x.glass(1, 0, 3, 2);
+            x.lens(2);
+            x.behind(0, 0, 8);
+            x.set(0, 0, 1, -5, 1);
+            x.set(0, 1, 0, 1, 10);
+            x.behind(0, 1, 1);
+            x.view(0, 0, 0);
+            Flown f = new Flown(2);
+            f.index = new double[] {1.0, 0.0, 1.5};
+            f.t[0] = -5.0;
+            f.c[1] = 1.0 / 10.0;
+            f.v = 30.0;
+            Edges.fraction("image", x, x.first(6), 30, 1);
+            f.fly(0.5, 0.25, 0.0, 0.0);
+            due("passes", x.trace(0.5, 0.25, 0.0, 0.0), f.answer);
+            due("n turns", x.at(0, 5), -1.0);
+            Edges.due("near the middle of the surface", x.at(1, 2) > 0.0 && x.at(1, 2) < 1.0, true);
+            for (int s = 0; s < 3; s++) {
+                for (int what = 0; what < 7; what++) {
+                    due("at " + s + " " + what, x.at(s, what), f.marks[s][what]);
+                }
             }
         });
         edge("5", "a MIRROR is never TOTAL", () -> {
@@ -526,6 +615,16 @@ public final class RayEdgesTest {
                 }
             }
         });
+        edge("p35", "the plane is 10 of a LENS of ten; 0.0 behind it", () -> {
+            House x = ten();
+            due("passes", x.trace(0.5, 0.25, 0.0, 0.0), 0);
+            Edges.due("the plane", x.at(10, 5) != 0.0, true);
+            for (int s : new int[] {-1, 11, 12, Integer.MAX_VALUE}) {
+                for (int what = 0; what < 7; what++) {
+                    due("at " + s + " " + what, x.at(s, what), 0.0);
+                }
+            }
+        });
         edge("p35", "of the LENS as it was then", () -> {
             House x = ten();
             x.trace(0.5, 0.25, 0.0, 0.0);
@@ -563,6 +662,15 @@ public final class RayEdgesTest {
                 x.set(0, 0, 3, 0, 1);
                 x.glass(1, 0, 1, 2);
             }
+        });
+        edge("p35", "each trace() begins anew: its path is its own", () -> {
+            House x = single();
+            x.trace(0.5, 0.25, 0.0, 0.0);
+            double[] before = marks(x, 1);
+            x.trace(0.0, 0.0, 0.0, 0.0);
+            due("along the axis", x.at(1, 6), 45.0);
+            x.trace(0.5, 0.25, 0.0, 0.0);
+            due("the same again", Arrays.equals(before, marks(x, 1)) ? 1 : 0, 1);
         });
         edge("p35", "the latest trace() that was not refused; an open() lets it go", () -> {
             House x = single();
@@ -620,9 +728,40 @@ public final class RayEdgesTest {
                 due("spread " + what, x.spread(what), 0.0);
             }
         });
+        edge("p37", "the means where one alone passes", () -> {
+            House x = twoWithStopBehind();
+            x.set(0, 0, 3, 1, 5);
+            due("one", x.spot(2, 0.0625, 0.03125), 1);
+            Edges.due("off the axis", x.spread(0) != 0.0 && x.spread(1) != 0.0, true);
+            due("mean x", x.spread(3), x.spread(0));
+            due("mean y", x.spread(4), x.spread(1));
+            due("ss", x.spread(2), x.spread(0) * x.spread(0) + x.spread(1) * x.spread(1));
+            due("spread", x.spread(5), x.spread(2) - (x.spread(3) * x.spread(3) + x.spread(4) * x.spread(4)));
+        });
+        edge("p37", "the sums are of those that pass, in order", () -> {
+            House x = single();
+            due("all", x.spot(2, 0.25, 0.5), 13);
+            House y = single();
+            double sx = 0.0;
+            double sy = 0.0;
+            double ss = 0.0;
+            for (int j = -2; j <= 2; j++) {
+                for (int i = -2; i <= 2; i++) {
+                    if (i * i + j * j <= 4) {
+                        due("passes", y.trace((double) i / 2, (double) j / 2, 0.25, 0.5), 0);
+                        sx = sx + y.at(1, 0);
+                        sy = sy + y.at(1, 1);
+                        ss = ss + (y.at(1, 0) * y.at(1, 0) + y.at(1, 1) * y.at(1, 1));
+                    }
+                }
+            }
+            due("sx", x.spread(0), sx);
+            due("sy", x.spread(1), sy);
+            due("ss", x.spread(2), ss);
+        });
         edge("p37", "the means by those that pass, not by all", () -> {
             House x = twoWithStopBehind();
-            due("some of 13", x.spot(2, 0.0, 0.0), 5);
+            due("some of 13", x.spot(2, 0.0625, 0.03125), 5);
             due("mean x", x.spread(3), x.spread(0) / 5);
             due("mean y", x.spread(4), x.spread(1) / 5);
             due("spread", x.spread(5), x.spread(2) / 5 - (x.spread(3) * x.spread(3) + x.spread(4) * x.spread(4)));
@@ -668,6 +807,7 @@ public final class RayEdgesTest {
 
     public static void main(String[] args) {
         arguments();
+        starts();
         refusals();
         far();
         missing();
