@@ -509,6 +509,18 @@ public final class MeritEdgesTest {
         return x;
     }
 
+    /** A GAP of 2^62 - 2^39, or turned about, and a second one of 1 / 2^39 of it: 2^23 - 1. */
+    private static House distant(int sign) {
+        House x = new House();
+        x.lens(2);
+        x.set(0, 0, 1, 1, 1);
+        x.pick(0, 1, 1, 0, 1, 1L << 39);
+        x.rewrite(1, sign * (Edges.FAR - (1L << 39)), 1);
+        due("opening", x.open(), 3);
+        x.view(0, 0, 0);
+        return x;
+    }
+
     private static void variables() {
         edge("p40", "at most 5: FULL", () -> {
             House x = two("gap 0 = 1");
@@ -714,6 +726,23 @@ public final class MeritEdgesTest {
             x.vary(0, 1, 1, (1L << 39) - 1);
             due("rounds", x.rounds(0, 20), 4);
             due("no move", x.count(1), 2);
+        });
+        edge("6", "LOST on one side, the other side makes a MOVE", () -> {
+            House x = distant(1);
+            x.merit(0, "gap 1 = 0");
+            x.vary(0, 1, 1L << 39, 1);
+            due("a round", x.rounds(0, 1), 1);
+            fraction("less, as more is 2^62", x, x.datum(0, 0, 1), Edges.FAR - (1L << 40), 1);
+            x = distant(-1);
+            x.merit(0, "gap 1 = 0");
+            x.vary(0, 1, 1L << 39, 1);
+            due("a round", x.rounds(0, 1), 1);
+            fraction("more", x, x.datum(0, 0, 1), (1L << 40) - Edges.FAR, 1);
+            x = distant(-1);
+            x.merit(0, "gap 1 = -9000000");
+            x.vary(0, 1, 1L << 39, 1);
+            due("less would be better, but is -2^62", x.rounds(0, 1), 1);
+            due("no move", x.count(1), 3);
         });
         edge("6", "in the ROUND in which a MOVE would come for which there is no room", () -> {
             for (int room = 0; room <= 3; room++) {
@@ -921,6 +950,25 @@ public final class MeritEdgesTest {
             due("the datum stays", x.datum(0, 0, 1), 1);
             due("at 0", x.above(), 0);
             due("no moves", x.count(1), 1);
+        });
+        edge("6", "one upon the other: a SUM that is LOST stays so, whatever comes upon it", () -> {
+            House x = distant(1);
+            x.merit(0, "gap 1 = 8388607");
+            x.tolerance(0, 1, 1L << 39, 1);
+            x.tolerance(0, 1, 1L << 39, 1);
+            long z = 3;
+            int less = 0;
+            int both = 0;
+            for (int i = 0; i < 60; i++) {
+                z = z * 6364136223846793005L + 1442695040888963407L;
+                boolean first = z >>> 63 == 0;
+                z = z * 6364136223846793005L + 1442695040888963407L;
+                less += first ? 1 : 0;
+                both += first && z >>> 63 == 1 ? 1 : 0;
+            }
+            due("all that begin with less", x.draws(60, 3, 0, 4, 1), less);
+            due("less, then more", x.draws(60, 3, 0, 0, 1), both);
+            Edges.due("there are all sorts", both > 0 && both < less && less < 60, true);
         });
         edge("6", "a TOLERANCE that stays draws all the same", () -> {
             House x = two("gap 0 = 1");
